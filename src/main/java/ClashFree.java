@@ -1,5 +1,3 @@
-import java.util.Arrays;
-
 /** Tables of two levels without clashes, as ../shared/DOC.md promises them. */
 public final class ClashFree {
     public static final int NONE = -1;
@@ -18,6 +16,8 @@ public final class ClashFree {
     private static final int P = 2147483647;
     private static final int MOST_TABLES = 4;
     private static final int MOST_KEYS = 160;
+    // The power of two from which halving steps find any place among 160.
+    private static final int HALF_OF_KEYS = 128;
     private static final int MOST_BUCKETS = 2048;
     private static final int MOST_OUTER = 400;
     private static final int OUTER_AT_ONCE = 20;
@@ -157,7 +157,8 @@ public final class ClashFree {
             return CANNOT;
         }
         int before = table.draw.pairs;
-        table.buildAllAgain();
+        table.buildAll();
+        table.allBuilt++;
         return table.draw.pairs - before;
     }
 
@@ -211,7 +212,7 @@ public final class ClashFree {
         if (i < 0 || i >= table.layout.roomsOf(j)) {
             return CANNOT;
         }
-        int at = table.layout.tenant(j, i, table.keys.size);
+        int at = table.layout.tenant(j, i);
         return at < 0 ? NONE : table.keys.keyAt(at);
     }
 
@@ -237,7 +238,7 @@ public final class ClashFree {
         if (table == null || k < 0 || k >= table.keys.size) {
             return NONE;
         }
-        int at = table.layout.nthByRooms(k, table.keys.size);
+        int at = table.layout.nthByRooms(k);
         return at < 0 ? NONE : table.keys.keyAt(at);
     }
 
@@ -312,7 +313,7 @@ public final class ClashFree {
 
     public int inner(int t, int j, int a, int b) {
         Table table = tableAt(t);
-        if (table == null || !table.layout.hasRooms(j) || !isPair(a, b)) {
+        if (table == null || table.layout.roomsOf(j) == 0 || !isPair(a, b)) {
             return NONE;
         }
         return paper.clashes(table, j, a, b);
@@ -320,7 +321,7 @@ public final class ClashFree {
 
     public int tries(int t, int j, int n, long s, int what) {
         Table table = tableAt(t);
-        if (table == null || !table.layout.hasRooms(j) || n < 1 || n > MOST_ON_PAPER || what < 0 || what > 1) {
+        if (table == null || table.layout.roomsOf(j) == 0 || n < 1 || n > MOST_ON_PAPER || what < 0 || what > 1) {
             return CANNOT;
         }
         return paper.tried(table, j, n, s, what);
@@ -346,8 +347,8 @@ public final class ClashFree {
             case 0: return paper.layout.sum;
             case 1: return paper.outerPairs;
             case 2: return paper.draw.pairs - paper.outerPairs;
-            case 3: return paper.edgeRoom(table.keys.size, false);
-            default: return paper.edgeRoom(table.keys.size, true);
+            case 3: return paper.edgeRoom(false);
+            default: return paper.edgeRoom(true);
         }
     }
 
@@ -675,17 +676,13 @@ public final class ClashFree {
 
         /** How many KEYS are below a number. */
         int rank(int number) {
-            int low = 0;
-            int high = size;
-            while (low < high) {
-                int middle = (low + high) / 2;
-                if (keys[middle] < number) {
-                    low = middle + 1;
-                } else {
-                    high = middle;
+            int below = 0;
+            for (int step = HALF_OF_KEYS; step > 0; step /= 2) {
+                if (below + step <= size && keys[below + step - 1] < number) {
+                    below += step;
                 }
             }
-            return low;
+            return below;
         }
 
         int find(int key) {
@@ -760,20 +757,22 @@ public final class ClashFree {
         }
     }
 
-    /** BUCKETS and ROOMS; where the k-th of the KEYS lies. Which ROOM is empty is found from that: ROOMS have no rows. */
+    /** KEYS dealt to BUCKETS and ROOMS: where the k-th of them lies. ROOMS have no rows of their own, for there may be 102400. */
     private static final class Layout {
         int buckets;
         int a;
         int b;
         int sum;
+        // held[j] is how many of home[0] .. home[size - 1] are j, 0 for all that are no BUCKETS.
+        int size;
         final int[] held;
         final int[] roof;
         final int[] pairA;
         final int[] pairB;
         final int[] home;
         final int[] lies;
-        final int[] next;
         final int[] order;
+        final int[] next;
 
         Layout() {
             held = new int[MOST_BUCKETS];
@@ -790,12 +789,8 @@ public final class ClashFree {
             return j >= 0 && j < buckets;
         }
 
-        boolean hasRooms(int j) {
-            return isBucket(j) && roof[j] > 0;
-        }
-
         int roomsOf(int j) {
-            return isBucket(j) ? roof[j] * roof[j] : 0;
+            return j < 0 || j >= buckets ? 0 : roof[j] * roof[j];
         }
 
         int homeOf(int key) {
@@ -803,11 +798,12 @@ public final class ClashFree {
         }
 
         int roomOf(int key, int j) {
-            return hasRooms(j) ? spot(pairA[j], pairB[j], key, roof[j] * roof[j]) : NONE;
+            int rooms = roomsOf(j);
+            return rooms == 0 ? NONE : spot(pairA[j], pairB[j], key, rooms);
         }
 
         /** Which of the KEYS lies in a ROOM. */
-        int tenant(int j, int room, int size) {
+        int tenant(int j, int room) {
             for (int k = 0; k < size; k++) {
                 if (home[k] == j && lies[k] == room) {
                     return k;
@@ -820,7 +816,7 @@ public final class ClashFree {
             return home[k] < home[other] || home[k] == home[other] && lies[k] < lies[other];
         }
 
-        int nthByRooms(int n, int size) {
+        int nthByRooms(int n) {
             for (int k = 0; k < size; k++) {
                 int ahead = 0;
                 for (int other = 0; other < size; other++) {
@@ -863,11 +859,22 @@ public final class ClashFree {
             return found;
         }
 
-        /** The KEYS are dealt to n BUCKETS that have none yet; tells the sum of the squares of what each has then. */
-        int deal(Keys keys, int pairA, int pairB, int n) {
+        private void sweep() {
+            for (int k = 0; k < size; k++) {
+                held[home[k]] = 0;
+            }
+        }
+
+        /** The KEYS are dealt to n BUCKETS; tells the sum of the squares of what each has. ROOFS and ROOMS are not yet theirs. */
+        int deal(Keys keys, int outerA, int outerB, int n) {
+            sweep();
+            buckets = n;
+            a = outerA;
+            b = outerB;
+            size = keys.size;
             int squares = 0;
-            for (int k = 0; k < keys.size; k++) {
-                int j = spot(pairA, pairB, keys.keys[k], n);
+            for (int k = 0; k < size; k++) {
+                int j = spot(a, b, keys.keys[k], n);
                 home[k] = j;
                 squares += 2 * held[j] + 1;
                 held[j]++;
@@ -875,54 +882,25 @@ public final class ClashFree {
             return squares;
         }
 
-        /** The BUCKETS that KEYS were dealt to have none again; tells how many BUCKETS had some. */
-        int sweep(int size) {
-            int swept = 0;
-            for (int k = 0; k < size; k++) {
-                if (held[home[k]] > 0) {
-                    held[home[k]] = 0;
-                    swept++;
-                }
-            }
-            return swept;
-        }
-
-        int most(int size) {
-            int most = 0;
-            for (int k = 0; k < size; k++) {
-                most = Math.max(most, held[home[k]]);
-            }
-            return most;
-        }
-
-        /** ROOFS by what was dealt to n BUCKETS with a PAIR, then all BUCKETS are BUILT, by numbers. */
-        void settle(Keys keys, Draw draw, int n, int times, int squares) {
-            buckets = n;
-            a = draw.a;
-            b = draw.b;
-            sum = times * times * squares;
+        /** ROOFS are so many times what was dealt; the order has the KEYS of BUCKET j next ahead of next[j]. */
+        void settle(int times) {
+            sum = 0;
             int from = 0;
-            for (int j = 0; j < n; j++) {
+            for (int j = 0; j < buckets; j++) {
                 roof[j] = times * held[j];
+                sum += roof[j] * roof[j];
                 next[j] = from;
                 from += held[j];
             }
-            for (int k = 0; k < keys.size; k++) {
+            for (int k = 0; k < size; k++) {
                 int j = home[k];
                 order[next[j]] = k;
                 next[j]++;
             }
-            for (int j = 0; j < n; j++) {
-                buildMembers(keys, draw, j, next[j] - held[j], next[j]);
-            }
         }
 
-        void buildBucket(Keys keys, Draw draw, int j) {
-            buildMembers(keys, draw, j, 0, gather(j, keys.size));
-        }
-
-        /** The numbers of a BUCKET's KEYS come first in the order. */
-        int gather(int j, int size) {
+        /** The order has the KEYS of a BUCKET first; tells how many. */
+        int gather(int j) {
             int n = 0;
             for (int k = 0; k < size; k++) {
                 if (home[k] == j) {
@@ -933,15 +911,15 @@ public final class ClashFree {
             return n;
         }
 
-        // The members are order[from] .. order[to - 1].
-        private void buildMembers(Keys keys, Draw draw, int j, int from, int to) {
-            int rooms = roomsOf(j);
-            if (rooms == 0) {
-                return;
-            }
-            boolean clash = true;
+        /** A BUCKET is BUILT whose KEYS the order has next ahead of a place. */
+        void buildBucket(Keys keys, Draw draw, int j, int to) {
+            int rooms = roof[j] * roof[j];
+            int from = to - held[j];
+            boolean clash = rooms > 0 && from >= 0;
             for (int n = 0; n < MOST_INNER && clash; n++) {
                 draw.pair();
+                pairA[j] = draw.a;
+                pairB[j] = draw.b;
                 clash = false;
                 for (int m = from; m < to && !clash; m++) {
                     int room = spot(draw.a, draw.b, keys.keys[order[m]], rooms);
@@ -951,8 +929,10 @@ public final class ClashFree {
                     }
                 }
             }
-            pairA[j] = draw.a;
-            pairB[j] = draw.b;
+        }
+
+        int raised(int j) {
+            return roof[j] == 0 ? 2 : 2 * roof[j];
         }
 
         void raise(int j) {
@@ -961,12 +941,8 @@ public final class ClashFree {
             roof[j] = higher;
         }
 
-        int raised(int j) {
-            return roof[j] == 0 ? 2 : 2 * roof[j];
-        }
-
-        /** A KEY comes as the at-th of size KEYS. */
-        void insert(int at, int size, int j) {
+        /** A KEY of a BUCKET comes as the at-th, not yet in a ROOM. */
+        void insert(int at, int j) {
             if (at < 0 || at > size || size >= MOST_KEYS || !isBucket(j)) {
                 return;
             }
@@ -975,20 +951,25 @@ public final class ClashFree {
             home[at] = j;
             lies[at] = NONE;
             held[j]++;
+            size++;
         }
 
-        /** The at-th of size KEYS goes. */
-        void remove(int at, int size) {
-            if (at < 0 || at >= size || size > MOST_KEYS) {
+        /** The at-th KEY goes. */
+        void remove(int at) {
+            if (at < 0 || at >= size) {
                 return;
             }
             held[home[at]]--;
-            System.arraycopy(home, at + 1, home, at, size - at - 1);
-            System.arraycopy(lies, at + 1, lies, at, size - at - 1);
+            size--;
+            System.arraycopy(home, at + 1, home, at, size - at);
+            System.arraycopy(lies, at + 1, lies, at, size - at);
         }
 
         /** The ROOM of the k-th KEY, as ROOMS are counted through all BUCKETS. */
         int roomOfAll(int k) {
+            if (k < 0 || k >= size) {
+                return NONE;
+            }
             int room = lies[k];
             for (int j = 0; j < home[k]; j++) {
                 room += roof[j] * roof[j];
@@ -997,16 +978,18 @@ public final class ClashFree {
         }
 
         void become(Layout other) {
+            sweep();
             buckets = other.buckets;
             a = other.a;
             b = other.b;
             sum = other.sum;
+            size = other.size;
             System.arraycopy(other.held, 0, held, 0, buckets);
             System.arraycopy(other.roof, 0, roof, 0, buckets);
             System.arraycopy(other.pairA, 0, pairA, 0, buckets);
             System.arraycopy(other.pairB, 0, pairB, 0, buckets);
-            System.arraycopy(other.home, 0, home, 0, MOST_KEYS);
-            System.arraycopy(other.lies, 0, lies, 0, MOST_KEYS);
+            System.arraycopy(other.home, 0, home, 0, size);
+            System.arraycopy(other.lies, 0, lies, 0, size);
         }
     }
 
@@ -1031,7 +1014,7 @@ public final class ClashFree {
             layout = new Layout();
         }
 
-        /** Without KEYS and not yet BUILT. */
+        /** Made, but without KEYS and not yet BUILT. */
         void begin(int newBound, int newSpread, int newGrowth, long s) {
             bound = newBound;
             spread = newSpread;
@@ -1048,35 +1031,30 @@ public final class ClashFree {
             return bound * limit;
         }
 
+        /** ALL is BUILT; how often is counted where it is called, for as a TABLE is made it is not. */
         void buildAll() {
             limit = keys.size + keys.size * growth / 100 + 4;
             count = keys.size;
             laid += keys.size;
             int n = Math.max(1, spread * limit / 100);
-            int squares = 0;
-            // Other numbers of BUCKETS may have left theirs anywhere.
-            Arrays.fill(layout.held, 0);
             for (int tried = 1; tried <= MOST_OUTER; tried++) {
                 draw.pair();
-                squares = layout.deal(keys, draw.a, draw.b, n);
-                if (4 * squares <= mostRooms() || tried == MOST_OUTER) {
+                int squares = layout.deal(keys, draw.a, draw.b, n);
+                if (4 * squares <= mostRooms()) {
                     break;
                 }
-                layout.sweep(keys.size);
                 if (tried % OUTER_AT_ONCE == 0) {
                     n = Math.min(MOST_BUCKETS, 2 * n);
                 }
             }
-            layout.settle(keys, draw, n, 2, squares);
-        }
-
-        void buildAllAgain() {
-            buildAll();
-            allBuilt++;
+            layout.settle(2);
+            for (int j = 0; j < layout.buckets; j++) {
+                layout.buildBucket(keys, draw, j, layout.next[j]);
+            }
         }
 
         void countReads(int key) {
-            reads += layout.hasRooms(layout.homeOf(key)) ? 2 : 1;
+            reads += layout.roomsOf(layout.homeOf(key)) > 0 ? 2 : 1;
         }
 
         boolean isFullFor(int key) {
@@ -1088,15 +1066,12 @@ public final class ClashFree {
             if (keys.find(key) >= 0) {
                 return REPLACED;
             }
-            if (count + 1 > limit) {
-                return ALL_BUILT;
-            }
             int j = layout.homeOf(key);
-            if (!layout.isBucket(j)) {
+            if (count + 1 > limit || !layout.isBucket(j)) {
                 return ALL_BUILT;
             }
             if (layout.held[j] < layout.roof[j]) {
-                return layout.tenant(j, layout.roomOf(key, j), keys.size) < 0 ? LAID : BUCKET_BUILT;
+                return layout.tenant(j, layout.roomOf(key, j)) < 0 ? LAID : BUCKET_BUILT;
             }
             int higher = layout.raised(j);
             int sum = layout.sum - layout.roomsOf(j) + higher * higher;
@@ -1112,18 +1087,19 @@ public final class ClashFree {
                 return told;
             }
             int j = layout.homeOf(key);
-            layout.insert(at, keys.size, j);
+            layout.insert(at, j);
             keys.insert(at, key, value);
             count++;
             if (told == ALL_BUILT) {
-                buildAllAgain();
+                buildAll();
+                allBuilt++;
             } else if (told == LAID) {
                 layout.lies[at] = layout.roomOf(key, j);
             } else {
                 if (told == BUCKET_RAISED) {
                     layout.raise(j);
                 }
-                layout.buildBucket(keys, draw, j);
+                layout.buildBucket(keys, draw, j, layout.gather(j));
                 bucketsBuilt++;
                 laid += layout.held[j];
             }
@@ -1136,34 +1112,32 @@ public final class ClashFree {
             if (at < 0) {
                 return NONE;
             }
-            layout.remove(at, keys.size);
+            layout.remove(at);
             keys.remove(at);
             count++;
             if (count > limit) {
-                buildAllAgain();
+                buildAll();
+                allBuilt++;
                 return 2;
             }
             return 1;
         }
 
         void become(Table other) {
-            bound = other.bound;
-            spread = other.spread;
-            growth = other.growth;
+            begin(other.bound, other.spread, other.growth, other.draw.s);
             limit = other.limit;
             count = other.count;
             reads = other.reads;
             bucketsBuilt = other.bucketsBuilt;
             allBuilt = other.allBuilt;
             laid = other.laid;
-            draw.s = other.draw.s;
             draw.pairs = other.draw.pairs;
             keys.become(other.keys);
             layout.become(other.layout);
         }
     }
 
-    /** What is tried with told PAIRS and told numbers s, without a TABLE being changed. */
+    /** What is tried with told PAIRS and told numbers s; no TABLE is changed by it. */
     private static final class Paper {
         final Draw draw;
         final Layout layout;
@@ -1174,16 +1148,14 @@ public final class ClashFree {
             layout = new Layout();
         }
 
-        /** outer(): the layout's BUCKETS have no KEYS ahead of it and behind it. */
+        /** outer(). */
         int dealt(Keys keys, int a, int b, int n, int what) {
             int squares = layout.deal(keys, a, b, n);
-            int most = layout.most(keys.size);
-            int used = layout.sweep(keys.size);
             switch (what) {
                 case 0: return 4 * squares;
                 case 1: return squares;
-                case 2: return most;
-                default: return n - used;
+                case 2: return layout.held[layout.fullest()];
+                default: return layout.bucketsWith(0);
             }
         }
 
@@ -1196,7 +1168,6 @@ public final class ClashFree {
             for (int k = 0; k < n; k++) {
                 draw.pair();
                 int sum = 4 * layout.deal(table.keys, draw.a, draw.b, table.layout.buckets);
-                layout.sweep(table.keys.size);
                 if (k == 0 || sum < least) {
                     first = k;
                     least = sum;
@@ -1214,11 +1185,11 @@ public final class ClashFree {
 
         /** inner(). */
         int clashes(Table table, int j, int a, int b) {
-            int members = table.layout.gather(j, table.keys.size);
+            int members = table.layout.gather(j);
             return clashesOf(table, members, table.layout.roomsOf(j), a, b);
         }
 
-        // The members are the first in the table's order; the layout's row of ROOMS is used for theirs.
+        // The members come first in the table's order; this layout's row takes the ROOMS that they would have.
         private int clashesOf(Table table, int members, int rooms, int a, int b) {
             int clashes = 0;
             for (int m = 0; m < members; m++) {
@@ -1235,7 +1206,7 @@ public final class ClashFree {
 
         /** tries(). */
         int tried(Table table, int j, int n, long s, int what) {
-            int members = table.layout.gather(j, table.keys.size);
+            int members = table.layout.gather(j);
             int rooms = table.layout.roomsOf(j);
             int first = NONE;
             int good = 0;
@@ -1252,32 +1223,32 @@ public final class ClashFree {
             return what == 0 ? first : good;
         }
 
-        /** The layout becomes the FROZEN TABLE of the KEYS, but for how many KEYS BUCKETS have; false: not by 1000 PAIRS. */
+        /** The layout becomes the FROZEN TABLE of the KEYS; false: not by 1000 PAIRS. */
         boolean freeze(Keys keys, long s) {
             int n = Math.max(1, keys.size);
+            boolean within = false;
             draw.begin(s);
-            for (int tried = 0; tried < MOST_FROZEN; tried++) {
+            for (int tried = 0; tried < MOST_FROZEN && !within; tried++) {
                 draw.pair();
-                int squares = layout.deal(keys, draw.a, draw.b, n);
-                boolean within = squares <= 3 * keys.size;
-                if (within) {
-                    outerPairs = draw.pairs;
-                    layout.settle(keys, draw, n, 1, squares);
-                }
-                layout.sweep(keys.size);
-                if (within) {
-                    return true;
-                }
+                within = layout.deal(keys, draw.a, draw.b, n) <= 3 * keys.size;
             }
-            return false;
+            if (!within) {
+                return false;
+            }
+            outerPairs = draw.pairs;
+            layout.settle(1);
+            for (int j = 0; j < n; j++) {
+                layout.buildBucket(keys, draw, j, layout.next[j]);
+            }
+            return true;
         }
 
         /** The least or the last ROOM of all that has a KEY. */
-        int edgeRoom(int size, boolean last) {
+        int edgeRoom(boolean last) {
             int edge = NONE;
-            for (int k = 0; k < size; k++) {
+            for (int k = 0; k < layout.size; k++) {
                 int room = layout.roomOfAll(k);
-                if (edge < 0 || room > edge == last) {
+                if (edge < 0 || (room > edge) == last) {
                     edge = room;
                 }
             }
