@@ -812,20 +812,24 @@ public final class ClashFree {
             return NONE;
         }
 
-        private boolean liesAhead(int k, int other) {
-            return home[k] < home[other] || home[k] == home[other] && lies[k] < lies[other];
-        }
-
+        /** Which of the KEYS is the n-th by BUCKETS, then ROOMS. */
         int nthByRooms(int n) {
-            for (int k = 0; k < size; k++) {
+            int j = 0;
+            int within = n;
+            while (j < buckets && within >= held[j]) {
+                within -= held[j];
+                j++;
+            }
+            int members = gather(j);
+            for (int m = 0; m < members; m++) {
                 int ahead = 0;
-                for (int other = 0; other < size; other++) {
-                    if (liesAhead(other, k)) {
+                for (int other = 0; other < members; other++) {
+                    if (lies[order[other]] < lies[order[m]]) {
                         ahead++;
                     }
                 }
-                if (ahead == n) {
-                    return k;
+                if (ahead == within) {
+                    return order[m];
                 }
             }
             return NONE;

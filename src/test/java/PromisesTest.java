@@ -804,6 +804,8 @@ public final class PromisesTest {
         due("put of the inner i", x.below(0, 10), 3);
         due("put of the outer i", x.get(0, 12), 2);
         due("i outside", x.get(0, 99), 0);
+        due("five nested", run(x, 0, "for 2[for 2[for 2[for 2[for 2[let i;];];];];];let x*10+i;"), 95);
+        due("x of five nested", x.ran(4), 10);
         due("for 0", run(x, 0, "for 0[let 5;];"), 0);
         due("for of nothing", run(x, 0, "for 7[];"), 7);
         due("if", run(x, 0, "if 1[let 5;];if 0[let 6;];if 0-1[let 7;];"), 1);
@@ -931,6 +933,11 @@ public final class PromisesTest {
         bad("le", 1, 0, 0);
         bad("lets 5;", 1, 0, 0);
         bad("letx;", 1, 0, 0);
+        bad("letz 5;", 1, 0, 0);
+        bad("aet 5;", 1, 0, 0);
+        bad("let{5;", 1, 3, 0);
+        bad("let`5;", 1, 3, 0);
+        bad("let 5:1;", 1, 5, 0);
         bad("let5;", 1, 3, 0);
         bad("let x5;", 1, 5, 0);
         bad("put 5as 6;", 1, 5, 0);
@@ -1006,6 +1013,8 @@ public final class PromisesTest {
         bad(five + "if (((((((((1)))))))))[", 3, 28, 5);
         bad(five + "if (((((((((1)))))))));", 3, 39, 5);
         bad(five + "for 1 1", 1, 34, 5);
+        bad(five + "for 1 1[", 1, 34, 5);
+        bad(five + "if 1 1[", 1, 33, 5);
         bad(five + "for", 1, 31, 5);
         bad(five + "for 1[" + five, 3, 28, 5);
     }
