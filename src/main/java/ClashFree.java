@@ -14,6 +14,8 @@ public final class ClashFree {
     private static final int ALL_BUILT = 4;
 
     private static final int P = 2147483647;
+    private static final long DRAW_TIMES = 6364136223846793005L;
+    private static final long DRAW_AND = 1442695040888963407L;
     private static final int MOST_TABLES = 4;
     private static final int MOST_KEYS = 160;
     // The power of two from which halving steps find any place among 160.
@@ -647,9 +649,9 @@ public final class ClashFree {
         }
 
         void pair() {
-            s = s * 6364136223846793005L + 1442695040888963407L;
+            s = s * DRAW_TIMES + DRAW_AND;
             a = 1 + (int) ((s >>> 33) % (P - 1));
-            s = s * 6364136223846793005L + 1442695040888963407L;
+            s = s * DRAW_TIMES + DRAW_AND;
             b = (int) ((s >>> 33) % P);
             pairs++;
         }

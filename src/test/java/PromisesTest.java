@@ -104,6 +104,7 @@ public final class PromisesTest {
         newObject();
         tape();
         make();
+        draws();
         put();
         putBySum();
         putAtMost();
@@ -213,6 +214,18 @@ public final class PromisesTest {
         due("s below 0: a", x.has(1, 6), 1574552489);
         due("s below 0: b", x.has(1, 7), 1490332343);
         due("s below 0: s", x.has(1, 13), -5644886720501858487L);
+    }
+
+    /** Numbers s by which a draw comes out at the very ends of what 31 bits can be. */
+    private static void draws() {
+        long[][] all = {{3304166281475345618L, 1, 1960553886}, {-7847782917531415342L, 2, 1097936075},
+            {-3990628593227445038L, TOP, 675688049}, {1427645566418854767L, 384655582, TOP},
+            {6922024682175505263L, 1233881475, 0}, {-4066733549337795729L, 1682913337, 2147483645}};
+        for (long[] one : all) {
+            ClashFree x = made(8, 100, 0, one[0]);
+            due("a of a draw at the ends", x.has(0, 6), one[1]);
+            due("b of a draw at the ends", x.has(0, 7), one[2]);
+        }
     }
 
     private static void put() {
