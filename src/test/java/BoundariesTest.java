@@ -89,6 +89,17 @@ public final class BoundariesTest extends Sentences {
         return state;
     }
 
+    /** Each KEY of TABLE 0 lies in its ROOM, and nowhere else is one; its VALUE is 1000 less it. */
+    private static void allLie(ClashFree x) {
+        int n = (int) x.has(0, 0);
+        for (int k = 0; k < n; k++) {
+            int key = x.key(0, k);
+            due("KEY " + key + " lies in its ROOM", x.room(0, x.place(0, key, 0), x.place(0, key, 1)), key);
+            due("VALUE of " + key, x.get(0, key), 1000 - key);
+        }
+        due("the others are empty", x.empty(0), x.has(0, 4) - n);
+    }
+
     private static void newObject() {
         section("Promise 1");
         says("No TABLES.");
@@ -141,6 +152,15 @@ public final class BoundariesTest extends Sentences {
         due("so many", x.count(2), 7);
         due("run", x.run(0), 1);
         due("x", x.ran(4), 12);
+        // Its first bytes alone: what stood behind them neither goes on with a number or a word nor counts as blanks.
+        String[] texts = {"let 12345;", "let 12    ;", "letter 12;", "let 12+345;"};
+        int[] ends = {6, 6, 3, 7};
+        for (int n = 0; n < texts.length; n++) {
+            Checks.feed(x, bytesOf(texts[n]));
+            so("cut", x.end(ends[n]));
+            due("it ends too soon", x.run(0), -1);
+            due("there", x.ran(1), ends[n]);
+        }
         so("none of none", x.end(0));
         x.feed(1, 2, 3, 4, 5);
         so("all", x.end(20));
@@ -278,6 +298,18 @@ public final class BoundariesTest extends Sentences {
         }
         due("COUNT at LIMIT", x.has(0, 1) - x.has(0, 2), 0);
         due("BUILDS ALL", x.drop(0, 3), 2);
+        ClashFree y = made(64, 100, 200, 5);
+        for (int key : new int[] {50, 10, 90, 30, 70, 20, 80, 40, 60}) {
+            y.put(0, key, 1000 - key);
+        }
+        for (int key : new int[] {10, 50, 90}) {
+            so("the first, one between, the last", y.drop(0, key) > 0);
+            allLie(y);
+        }
+        for (int key : new int[] {5, 55, 95}) {
+            so("ahead of all, between, behind all", y.put(0, key, 1000 - key) > 0);
+            allLie(y);
+        }
 
         says("NONE: it is not there;");
         List<Long> before = stateOf(x, 0);
@@ -805,6 +837,12 @@ public final class BoundariesTest extends Sentences {
         due("ROOMS without KEYS", y.inner(0, 0, 1, 0), 0);
 
         says("NONE when something can't be, it has no ROOMS.");
+        ClashFree z = full();
+        z.make(0, 8, 25, 0, 1);
+        z.put(0, 5, 1);
+        for (int j = 1; j < 64; j++) {
+            due("a BUCKET that was", z.inner(0, j, 1, 0), -1);
+        }
         for (int a : new int[] {0, -1, P, Integer.MIN_VALUE}) {
             due("a", y.inner(0, 0, a, 0), -1);
         }
@@ -854,6 +892,12 @@ public final class BoundariesTest extends Sentences {
         due("ROOMS without KEYS", y.tries(0, 0, 200, 1, 1), 200);
 
         says("-2 when something can't be, it has no ROOMS.");
+        ClashFree z = full();
+        z.make(0, 8, 25, 0, 1);
+        z.put(0, 5, 1);
+        for (int j = 1; j < 64; j++) {
+            due("a BUCKET that was", z.tries(0, j, 5, 1, 0), -2);
+        }
         for (int n : new int[] {0, -1, 201, Integer.MAX_VALUE}) {
             due("n", y.tries(0, 0, n, 1, 0), -2);
         }
@@ -940,6 +984,14 @@ public final class BoundariesTest extends Sentences {
             so("PAIRS", y.frozen(0, s, 1) >= 1 && y.frozen(0, s, 2) >= 1);
         }
         so("on paper", stateOf(y, 0).equals(before));
+        for (int what = 0; what <= 4; what++) {
+            y.make(1, 8, 100, 0, 5);
+            y.put(1, TOP, 1);
+            due("of one behind sixty, " + what, y.frozen(1, 5, what), one[what]);
+            y.make(1, 8, 100, 0, 5);
+            due("of none behind sixty, " + what, y.frozen(1, 5, what), none[what]);
+            y.frozen(0, 5, what);
+        }
 
         says("NOTHING when there is no TABLE, or for others; -2: not by 1000 PAIRS.");
         // -2 comes of no run of calls; TermsTest brings it about, in "(1000 PAIRS at most)".
@@ -1454,6 +1506,17 @@ public final class BoundariesTest extends Sentences {
         due("one without KEYS over 160", y.copy(0, 1), 1);
         so("just as", stateOf(y, 0).equals(stateOf(y, 1)));
         due("no KEYS", y.count(1), 0);
+        for (int key = 0; key < 60; key++) {
+            due("they go on alike", y.put(0, key * key, key), y.put(1, key * key, key));
+        }
+        so("they went on alike", stateOf(y, 0).equals(stateOf(y, 1)));
+        ClashFree z = made(64, 100, 0, 5);
+        z.make(1, 8, 100, 0, 6);
+        for (int key = 2; key < 30; key++) {
+            z.put(1, key, 1000 - key);
+        }
+        z.copy(0, 1);
+        allLie(z);
 
         says("-2 (itself, too).");
         List<Long> before = stateOf(x, 0);

@@ -22,6 +22,7 @@ public final class TextsTest extends Sentences {
         faultsOfNumbers();
         faultsOfDepth();
         depths();
+        oneBehindAnother();
         whole(1);
         finish();
     }
@@ -390,10 +391,15 @@ public final class TextsTest extends Sentences {
         bad("let 5;" + (char) 255, 1, 6, 0);
         bad("let 5;\t", 1, 6, 0);
         bad("for 1[}", 1, 6, 1);
+        bad("let (?1);", 1, 5, 0);
+        bad("let 1+?1;", 1, 6, 0);
+        bad("for 1[];?for 1[];", 1, 8, 0);
 
         says("(words and numbers whole, at their first byte,");
         bad("lex 5;", 1, 0, 0);
         bad("lets 5;", 1, 0, 0);
+        bad("letz 5;", 1, 0, 0);
+        bad("leta 5;", 1, 0, 0);
         bad("letx;", 1, 0, 0);
         bad("putx as 5;", 1, 0, 0);
         bad("put xas 5;", 1, 4, 0);
@@ -459,6 +465,8 @@ public final class TextsTest extends Sentences {
         // Where no 6th [ comes there is none that is open.
         bad(FIVE + "for", 1, 31, 5);
         bad(FIVE + "for x[", 1, 32, 5);
+        bad(FIVE + "for ?1[", 1, 32, 5);
+        bad(FIVE + "if ?1[", 1, 31, 5);
         bad(FIVE + "for 201;", 2, 32, 5);
         bad(FIVE + "if 1;", 1, 32, 5);
         good("let ((((((((1))))))));");
@@ -496,5 +504,27 @@ public final class TextsTest extends Sentences {
         bad("if 0[for 201[];];", 2, 9, 1);
         bad("for 0[if 0[let (((((((((1", 3, 23, 2);
         bad(FIVE + "for 1[for 1[", 3, 28, 5);
+    }
+
+    /** What a text left, with a FAULT or ended by a 301st STEP, is nothing to the next one. */
+    private static void oneBehindAnother() {
+        String[] texts = {"let 1-", "let 5 as", "let 1-(((", "for 3[let 1;];", "for 200[let i;];", "for 1[if 1[for 201[", "let 9;let ?",
+            FIVE + "for 1[", "for 150[let 1;];put 5 as 7;", "if 1[let 7;];", "let 0000000;", "put 1 as 2;drop 1;drop 1;", " ", "for"};
+        for (String text : texts) {
+            ClashFree x = made(8, 25, 0, 1);
+            run(x, 0, text);
+            due("the next", run(x, 0, "let 5;put i as x;let i-x;"), 3);
+            due("FAULT behind " + text, x.ran(0), 0);
+            due("x behind " + text, x.ran(4), -5);
+            due("REFUSED behind " + text, x.ran(3), 0);
+            due("ended behind " + text, x.ran(5), 0);
+            due("the put behind " + text, x.get(0, 0), 5);
+        }
+        ClashFree x = made(8, 25, 0, 1);
+        for (int n = 0; n < 40; n++) {
+            due("ended by a put", run(x, 0, "for 150[let 1;];put 3 as 4;"), 300);
+        }
+        due("a deep one then", run(x, 0, "let 1+2*(3+4*(5+6*(7+8*(9+1*(2+3*(4+5))))));"), 1);
+        due("its x", x.ran(4), 1 + 2 * (3 + 4 * (5 + 6 * (7 + 8 * (9 + (2 + 3 * (4 + 5)))))));
     }
 }
