@@ -874,13 +874,13 @@ public final class ClashFree {
         /** The KEYS are dealt to n BUCKETS; tells the sum of the squares of what each has. ROOFS and ROOMS are not yet theirs. */
         int deal(Keys keys, int outerA, int outerB, int n) {
             sweep();
-            buckets = n;
+            buckets = Math.max(1, Math.min(MOST_BUCKETS, n));
             a = outerA;
             b = outerB;
             size = keys.size;
             int squares = 0;
             for (int k = 0; k < size; k++) {
-                int j = spot(a, b, keys.keys[k], n);
+                int j = spot(a, b, keys.keys[k], buckets);
                 home[k] = j;
                 squares += 2 * held[j] + 1;
                 held[j]++;
@@ -919,9 +919,12 @@ public final class ClashFree {
 
         /** A BUCKET is BUILT whose KEYS the order has next ahead of a place. */
         void buildBucket(Keys keys, Draw draw, int j, int to) {
-            int rooms = roof[j] * roof[j];
+            int rooms = roomsOf(j);
+            if (rooms == 0 || to > size) {
+                return;
+            }
             int from = to - held[j];
-            boolean clash = rooms > 0 && from >= 0;
+            boolean clash = from >= 0;
             for (int n = 0; n < MOST_INNER && clash; n++) {
                 draw.pair();
                 pairA[j] = draw.a;
